@@ -1,0 +1,45 @@
+/** Makes replays and runs of known lengths for the tests. */
+final class Make {
+    static final int LEFT = 1;
+    static final int RIGHT = 2;
+    static final int JUMP = 4;
+    static final int DASH = 8;
+
+    private Make() {
+    }
+
+    /** A replay of pieces, told as pairs of buttons and ticks. */
+    static int replay(SplitGate x, int level, int... pieces) {
+        int replay = x.replay(level);
+        inputs(x, replay, pieces);
+        return replay;
+    }
+
+    static void inputs(SplitGate x, int replay, int... pieces) {
+        for (int i = 0; i + 1 < pieces.length; i += 2) {
+            x.input(replay, pieces[i], pieces[i + 1]);
+        }
+    }
+
+    /** A replay that waits and then walks home over a flat level, in 'ticks' (122 to 222) altogether. */
+    static int walk(SplitGate x, int level, int ticks) {
+        int replay = x.replay(level);
+        if (ticks > 122) {
+            x.input(replay, 0, ticks - 122);
+        }
+        inputs(x, replay, RIGHT, 100, RIGHT, 22);
+        return replay;
+    }
+
+    /** An archive with as many flat levels, and with a category for each of 'levelsOfCategories'. */
+    static SplitGate archive(int levels, int... levelsOfCategories) {
+        SplitGate x = new SplitGate();
+        for (int i = 0; i < levels; i++) {
+            x.level();
+        }
+        for (int level : levelsOfCategories) {
+            x.category(level);
+        }
+        return x;
+    }
+}
