@@ -437,31 +437,33 @@ public final class SplitGate {
     private static final class Level {
         private static final int STEP = 16;
 
-        private final int[] heights = new int[COLUMNS];
+        private final boolean[] gaps = new boolean[COLUMNS];
+        private final int[] floors = new int[COLUMNS];
         private final int[] items = new int[COLUMNS];
 
         void change(int column, int height, int item) {
             if (column >= 0 && column < COLUMNS) {
-                heights[column] = height;
+                gaps[column] = height == GAP;
+                floors[column] = height == GAP ? 0 : STEP * height;
                 items[column] = item;
             }
         }
 
         boolean isGap(int column) {
-            return column < 0 || column >= COLUMNS || heights[column] == GAP;
-        }
-
-        boolean hasItem(int column, int item) {
-            return column >= 0 && column < COLUMNS && items[column] == item;
+            return column < 0 || column >= COLUMNS || gaps[column];
         }
 
         /** The floor of a column, 0 for a gap. */
         int base(int column) {
-            return isGap(column) ? 0 : STEP * heights[column];
+            return column >= 0 && column < COLUMNS ? floors[column] : 0;
         }
 
         boolean isFloorAbove(int column, int height) {
-            return !isGap(column) && STEP * heights[column] > height;
+            return column >= 0 && column < COLUMNS && !gaps[column] && floors[column] > height;
+        }
+
+        boolean hasItem(int column, int item) {
+            return column >= 0 && column < COLUMNS && items[column] == item;
         }
     }
 

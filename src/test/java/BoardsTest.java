@@ -146,6 +146,8 @@ public final class BoardsTest {
         duePlaces("four", x, 0, 3, -1, 3, 1, 2);
         x.strike(3);
         duePlaces("four, the first slower", x, 0, 2, -1, 2, 2, 1);
+        x.submit(0, 0, 0);
+        duePlaces("the first runner first", x, 0, 1, -1, 3, 3, 2);
     }
 
     private static void boardsAreOfTheirCategory() {
@@ -231,7 +233,7 @@ public final class BoardsTest {
             }
         }
         Check.due("replays that come home", home, 3);
-        int[][] rules = {{0, 0, 0, 500}, {0, 2, 0, 500}, {1, 0, 1, 500}, {1, 0, 2, 500}, {0, 0, 0, 2}, {1, 7, 0, 500}};
+        int[][] rules = {{0, 0, 0, 500}, {0, 2, 0, 500}, {1, 0, 1, 500}, {1, 0, 2, 500}, {0, 0, 0, 2}, {1, 7, 0, 500}, {0, 0, 3, 500}, {0, 0, 2, 500}, {0, 4, 0, 500}};
         for (int[] rule : rules) {
             x.rule(0, rule[0], rule[1], rule[2], rule[3]);
             for (int runner = 0; runner < 3; runner++) {

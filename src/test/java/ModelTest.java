@@ -2,6 +2,8 @@
 public final class ModelTest {
     private static final int RUNS = 2000;
     private static final int CALLS = 512;
+    private static final Class<?>[] THROWN = {
+        IndexOutOfBoundsException.class, IllegalArgumentException.class, IllegalStateException.class};
     private static final String[] READS = {"result", "used", "where", "judged", "best", "bestAnew", "place", "at",
         "placeWithout", "estimate", "plan", "where"};
 
@@ -183,19 +185,14 @@ public final class ModelTest {
         try {
             return ofGate ? call(name, a) : model.call(name, a);
         } catch (RuntimeException e) {
-            // What the machine throws bears another class, or comes out of the library.
-            boolean own = !ofGate || e.getStackTrace()[0].getClassName().startsWith("SplitGate");
-            if (own && e.getClass() == IndexOutOfBoundsException.class) {
-                return 1L << 40;
-            }
-            if (own && e.getClass() == IllegalArgumentException.class) {
-                return 2L << 40;
-            }
-            if (own && e.getClass() == IllegalStateException.class) {
-                return 3L << 40;
+            for (int i = 0; i < THROWN.length; i++) {
+                boolean fits = ofGate ? Check.isThrownByTheProgram(e, THROWN[i]) : e.getClass() == THROWN[i];
+                if (fits) {
+                    return (1L + i) << 40;
+                }
             }
             e.printStackTrace(System.out);
-            return ofGate ? 4L << 40 : 5L << 40;
+            return (ofGate ? 8L : 9L) << 40;
         }
     }
 
