@@ -1,9 +1,6 @@
 /** Runs of 512 calls on a new object, chosen by a fixed sequence of numbers, compared with the Model. */
 public final class ModelTest {
     private static final int RUNS = 2000;
-    private static final int CALLS = 512;
-    private static final Class<?>[] THROWN = {
-        IndexOutOfBoundsException.class, IllegalArgumentException.class, IllegalStateException.class};
     private static final String[] READS = {"result", "used", "where", "judged", "best", "bestAnew", "place", "at",
         "placeWithout", "estimate", "plan", "where"};
 
@@ -17,6 +14,7 @@ public final class ModelTest {
     private int offers;
     private final int[] home = new int[20];
     private int homeCount;
+    private int calls;
     private StringBuilder history = new StringBuilder();
 
     public static void main(String[] args) {
@@ -62,34 +60,33 @@ public final class ModelTest {
     private void play() {
         gate = new SplitGate();
         model = new Model();
-        int calls = 0;
         boolean rough = chance(30);
         int changes = rough ? 40 : 4 + next(20);
         while (calls < changes) {
-            calls += prepare(rough);
+            prepare(rough);
         }
-        while (calls < CALLS && !Check.failed()) {
-            calls += step();
+        while (calls < Calls.MOST && !Check.failed()) {
+            step();
         }
     }
 
-    private int prepare(boolean rough) {
+    private void prepare(boolean rough) {
         if (levels < 1 || chance(5)) {
             levels += due("level") >= 0 ? 1 : 0;
-            return 1;
+            return;
         }
         int height = rough ? next(8) - 1 : next(5) == 0 ? -1 : next(3);
         due("column", next(levels), next(32), chance(50) ? 0 : height, chance(90) ? next(2) : next(3));
-        return 1;
     }
 
-    private int step() {
+    private void step() {
         if (homeCount < 3 && replays < 12) {
-            return newReplay();
+            newReplay();
+            return;
         }
         if (categories == 0 || (categories < 3 && chance(10))) {
             categories += due("category", someLevel()) >= 0 ? 1 : 0;
-            return 1;
+            return;
         }
         int kind = next(100);
         if (kind < 2) {
@@ -97,7 +94,7 @@ public final class ModelTest {
         } else if (kind < 4) {
             due("column", about(0, levels - 1), about(0, 31), about(-1, 6), about(0, 2));
         } else if (kind < 8) {
-            return newReplay();
+            newReplay();
         } else if (kind < 22) {
             due("input", about(0, replays - 1), buttons(), chance(50) ? about(1, 20) : about(1, 100));
         } else if (kind < 25) {
@@ -120,12 +117,11 @@ public final class ModelTest {
         } else {
             read(READS[next(READS.length)]);
         }
-        return 1;
     }
 
-    private int newReplay() {
+    private void newReplay() {
         if (due("replay", someLevel()) < 0) {
-            return 1;
+            return;
         }
         int replay = replays++;
         int pieces = 0;
@@ -142,7 +138,6 @@ public final class ModelTest {
         if (due("result", replay) % 10 == 1) {
             home[homeCount++] = replay;
         }
-        return 2 + pieces;
     }
 
     private int buttons() {
@@ -164,63 +159,20 @@ public final class ModelTest {
         }
     }
 
-    /** Compares a call; returns its answer, or less than 0 if it threw. */
+    /** Compares a call; returns its answer, or less than 0 if it threw, or if there are no more calls. */
     private int due(String name, int... a) {
-        StringBuilder told = new StringBuilder(name);
-        for (int number : a) {
-            told.append(' ').append(number);
+        if (calls >= Calls.MOST) {
+            return -1;
         }
+        calls++;
+        String told = Calls.told(name, a);
         history.append(told).append('\n');
-        long got = answer(true, name, a);
-        long want = answer(false, name, a);
+        long got = Calls.answer(gate, name, a);
+        long want = Calls.answer(model, name, a);
         if (got != want && !Check.failed()) {
             System.out.println(history);
-            Check.due(told.toString(), got, want);
+            Check.report(told + " answered " + Calls.told(got) + ", due is " + Calls.told(want));
         }
-        return want >= 0 && want <= Integer.MAX_VALUE ? (int) want : -1;
-    }
-
-    /** The answer, or a number beyond all answers for an exception. */
-    private long answer(boolean ofGate, String name, int[] a) {
-        try {
-            return ofGate ? call(name, a) : model.call(name, a);
-        } catch (RuntimeException e) {
-            for (int i = 0; i < THROWN.length; i++) {
-                boolean fits = ofGate ? Check.isThrownByTheProgram(e, THROWN[i]) : e.getClass() == THROWN[i];
-                if (fits) {
-                    return (1L + i) << 40;
-                }
-            }
-            e.printStackTrace(System.out);
-            return (ofGate ? 8L : 9L) << 40;
-        }
-    }
-
-    private int call(String name, int[] a) {
-        switch (name) {
-            case "level": return gate.level();
-            case "column": gate.column(a[0], a[1], a[2], a[3]); return 0;
-            case "replay": return gate.replay(a[0]);
-            case "input": return gate.input(a[0], a[1], a[2]);
-            case "result": return gate.result(a[0]);
-            case "used": return gate.used(a[0]);
-            case "where": return gate.where(a[0], a[1]);
-            case "category": return gate.category(a[0]);
-            case "rule": return gate.rule(a[0], a[1], a[2], a[3], a[4]);
-            case "pass": return gate.pass(a[0]);
-            case "submit": return gate.submit(a[0], a[1], a[2]);
-            case "judged": return gate.judged(a[0]);
-            case "strike": return gate.strike(a[0]) ? 1 : 0;
-            case "best": return gate.best(a[0], a[1]);
-            case "bestAnew": return gate.bestAnew(a[0], a[1]);
-            case "place": return gate.place(a[0], a[1]);
-            case "at": return gate.at(a[0], a[1]);
-            case "placeWithout": return gate.placeWithout(a[0]);
-            case "estimate": return gate.estimate(a[0], a[1]);
-            case "offer": return gate.offer(a[0], a[1]);
-            case "gift": return gate.gift(a[0], a[1]);
-            case "plan": return gate.plan(a[0]);
-            default: throw new UnsupportedOperationException(name);
-        }
+        return want >= 0 && !Calls.isThrown(want) ? (int) want : -1;
     }
 }
