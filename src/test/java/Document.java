@@ -6,17 +6,45 @@ import java.util.LinkedHashSet;
 import java.util.List;
 import java.util.Set;
 
-/** The sentences of the document that a script must stand for: those of the Terms and of the promises. */
+/** What the document says: its face, and the sentences of the Terms and of the promises, each with a script. */
 final class Document {
     private static final Path TEXT = Path.of("../shared/DOC.md");
     private static final String WHAT_IT_IS = "What it is";
     private static final String TERMS = "Terms";
     private static final String PROMISE = "Promise ";
+    private static final String AHEAD = "Ahead of the calls ";
+    private static final String HEADING = "---- ";
 
     private final Set<String> sentences = new LinkedHashSet<>();
     private String place = "";
 
     private Document() {
+    }
+
+    /** Reports calls of the class that the document does not have, or not so, or not in this order, and the reverse. */
+    static void compareWithFace() throws IOException {
+        if (!Files.exists(TEXT)) {
+            System.out.println("there is no " + TEXT + ": the face was not compared with it");
+            return;
+        }
+        List<String> lines = Files.readAllLines(TEXT);
+        List<Source.Call> due = new ArrayList<>();
+        for (Source.Call call : Source.callsIn(lines)) {
+            due.add(call.under(headingAheadOf(call.name(), lines)));
+        }
+        List<Source.Call> got = Source.calls();
+        if (!got.equals(due)) {
+            Check.report("SplitGate.java has " + got + ", due is " + due);
+        }
+    }
+
+    private static String headingAheadOf(String name, List<String> lines) {
+        for (String line : lines) {
+            if (line.startsWith(AHEAD) && line.contains('`' + name + '`')) {
+                return line.substring(line.indexOf(HEADING)).replaceFirst("\\.$", "");
+            }
+        }
+        return "";
     }
 
     /** Reports each sentence without a script, and each script whose sentence is not the document's. */
@@ -70,7 +98,7 @@ final class Document {
 
     /** All but what the document says about itself, which no call can show. */
     private static boolean isAboutCalls(String sentence) {
-        return !sentence.equals("An archive of speedruns.") && !sentence.startsWith("Ahead of the calls ")
+        return !sentence.equals("An archive of speedruns.") && !sentence.startsWith(AHEAD)
             && !sentence.startsWith("Levels are rows of columns ");
     }
 }

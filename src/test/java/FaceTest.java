@@ -1,3 +1,4 @@
+import java.io.IOException;
 import java.lang.reflect.Constructor;
 import java.lang.reflect.Field;
 import java.lang.reflect.Method;
@@ -33,7 +34,7 @@ public final class FaceTest {
         "int plan(int) throws A",
     };
 
-    public static void main(String[] args) {
+    public static void main(String[] args) throws IOException {
         List<String> due = new ArrayList<>(List.of(FACE));
         List<String> got = new ArrayList<>();
         for (Method method : SplitGate.class.getDeclaredMethods()) {
@@ -54,6 +55,7 @@ public final class FaceTest {
         Check.due("parameters of the constructor", constructors[0].getParameterCount(), 0);
         Check.due("the constructor is public", Modifier.isPublic(constructors[0].getModifiers()), true);
         Check.due("the class is public and final", SplitGate.class.getModifiers(), Modifier.PUBLIC | Modifier.FINAL);
+        Document.compareWithFace();
         Check.end();
     }
 
